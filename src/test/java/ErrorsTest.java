@@ -23,6 +23,10 @@ public final class ErrorsTest {
         Check.same("squared 0", sums.squared(0), 0.0);
         Check.same("squared 1", sums.squared(1), 109.0 / 6.0);
         Check.same("squared 2", sums.squared(2), 1.0 / 6.0);
+        VisualSums one = new VisualSums(1, 3, 1);
+        one.put(true, 0, 2, 0, 2);
+        one.put(false, 0, 1, 0, 3);
+        Check.same("squared of one channel", one.squared(0), 13.0 / 3.0);
         VisualSums far = new VisualSums(24, 24, 2);
         Draw.all(far, false, 255);
         Check.same("the greatest squared", far.squared(0), 65025.0);

@@ -29,6 +29,12 @@ public final class SignsTest {
         signs("a ring", new String[] {"#####", "#...#", "#####"}, none, 1, 0);
         signs("meeting late", new String[] {"#...#", "#...#", "#####"}, none, 1, 0);
         signs("meeting from the left", new String[] {"...#.", "##.#.", "..#.."}, none, 1, 0);
+        signs("two rows away", new String[] {"#....", "#..#.", "#....", "#####"}, none4(), 2, 0);
+        signs("two columns away", new String[] {"#####", "....#", "..#.#", "....#"}, none4(), 2, 0);
+    }
+
+    private static String[] none4() {
+        return new String[] {".....", ".....", ".....", "....."};
     }
 
     private static void promise12Kept() {
