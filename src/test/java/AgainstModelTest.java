@@ -3,13 +3,15 @@ import java.util.function.Supplier;
 
 /** All promises: long runs of drawn calls (the same ones each time) get the model's answers, and none of the machine's exceptions. */
 public final class AgainstModelTest {
-    private static final int RUNS = 400;
+    private static final int RUNS = 600;
     private static final int CALLS = 512;
+    private static final int MOST_CALLS_AT_ONCE = 4;
 
     private final Random random;
     private final VisualSums sums;
     private final Model model;
     private final boolean slow;
+    private int made;
 
     private AgainstModelTest(int run) {
         random = new Random(run);
@@ -24,8 +26,8 @@ public final class AgainstModelTest {
     public static void main(String[] args) {
         for (int run = 0; run < RUNS; run++) {
             AgainstModelTest test = new AgainstModelTest(run);
-            for (int i = 0; i < CALLS; i++) {
-                test.call("run " + run + " call " + i + " ");
+            while (test.made <= CALLS - MOST_CALLS_AT_ONCE) {
+                test.call("run " + run + " after " + test.made + " calls: ");
             }
         }
         Check.end();
@@ -57,15 +59,8 @@ public final class AgainstModelTest {
     }
 
     private void compare(String what, Supplier<Object> call, Supplier<Object> due) {
-        Check.same(what, outcome(call), outcome(due));
-    }
-
-    private static String outcome(Supplier<Object> call) {
-        try {
-            return String.valueOf(call.get());
-        } catch (RuntimeException e) {
-            return e.getClass().getName();
-        }
+        made++;
+        Check.same(what, Seen.outcome(call), Seen.outcome(due));
     }
 
     private void call(String run) {
@@ -91,6 +86,7 @@ public final class AgainstModelTest {
         int kind = random.nextInt(60);
         boolean first = random.nextBoolean();
         if (kind == 0 && random.nextInt(4) == 0) {
+            made++;
             sums.clear();
             model.clear();
         } else if (kind < 3) {

@@ -3,7 +3,6 @@ public final class NeighboursTest {
     public static void main(String[] args) {
         promise10Blocks();
         promise10OneSort();
-        promise10Wrong();
         promise11Bands();
         promise11LooksAtGrey();
         Check.end();
@@ -46,16 +45,6 @@ public final class NeighboursTest {
         wide.put(false, 23, 0, 0, 46);
         Check.same("blocks 23", wide.blocks(23), 46.0);
         Check.same("blocks 22: a step of another one", wide.blocks(22), -46.0 / 22.0);
-    }
-
-    private static void promise10Wrong() {
-        VisualSums sums = new VisualSums(24, 3, 1);
-        for (int size : new int[] {1, 0, -1, -2, 25, Integer.MIN_VALUE, Integer.MAX_VALUE}) {
-            Check.illegalArgument("blocks " + size, () -> sums.blocks(size));
-        }
-        for (int size = 2; size <= 24; size++) {
-            Check.same("blocks " + size, sums.blocks(size), 0.0);
-        }
     }
 
     private static void promise11Bands() {

@@ -5,9 +5,7 @@ public final class SamplesTest {
 
     public static void main(String[] args) {
         promise1NewObject();
-        promise1NearestNumbers();
         promise2Put();
-        promise2PutWrong();
         promise3Paint();
         promise3PaintOrderAndRests();
         promise4Copy();
@@ -51,16 +49,6 @@ public final class SamplesTest {
         Check.same("new: the object's calls do not touch another", new VisualSums(9, 4, 2).put(true, 0, 0, 0, 1), 0);
     }
 
-    private static void promise1NearestNumbers() {
-        size("least", new VisualSums(1, 1, 1), 1, 1, 1);
-        size("most", new VisualSums(24, 24, 3), 24, 24, 3);
-        size("0", new VisualSums(0, 0, 0), 1, 1, 1);
-        size("too many", new VisualSums(25, 25, 4), 24, 24, 3);
-        size("far too few", new VisualSums(MIN, -1, MIN), 1, 1, 1);
-        size("far too many", new VisualSums(MAX, MAX, MAX), 24, 24, 3);
-        size("mixed", new VisualSums(25, 0, 2), 24, 1, 2);
-    }
-
     private static void promise2Put() {
         VisualSums sums = new VisualSums(4, 3, 3);
         Check.same("put 255", sums.put(true, 3, 2, 2, 255), 0);
@@ -84,22 +72,6 @@ public final class SamplesTest {
                 }
             }
         }
-    }
-
-    private static void promise2PutWrong() {
-        VisualSums sums = new VisualSums(4, 3, 2);
-        sums.paint(true, 50, 0);
-        int[][] nowhere = {{-1, 0, 0}, {4, 0, 0}, {0, -1, 0}, {0, 3, 0}, {0, 0, -1}, {0, 0, 2}, {MIN, 0, 0}, {MAX, 0, 0},
-            {0, MIN, 0}, {0, MAX, 0}, {0, 0, MIN}, {0, 0, MAX}, {3, 3, 0}, {4, 2, 0}};
-        for (int[] at : nowhere) {
-            Check.outOfBounds("put at no place", () -> sums.put(true, at[0], at[1], at[2], 1));
-            Check.outOfBounds("put of no sample at no place", () -> sums.put(false, at[0], at[1], at[2], 256));
-        }
-        for (int v : new int[] {-1, 256, MIN, MAX}) {
-            Check.illegalArgument("put " + v, () -> sums.put(true, 3, 2, 1, v));
-        }
-        Check.same("a put that throws changes nothing", sums.paint(true, 50, 0), 0);
-        Check.same("nor in the second one", sums.paint(false, 0, 0), 0);
     }
 
     private static void promise3Paint() {
