@@ -17,19 +17,27 @@ public final class Promise08HalfDownwardTest {
         Check.end();
     }
 
-    // the halved picture is, of scale 0, just as alike
     private static void half(int due, int a, int b, int c, int d) {
+        for (int y = 0; y < 5; y++) {
+            for (int x = 0; x < 5; x++) {
+                halfAt(x, y, due, a, b, c, d);
+            }
+        }
+    }
+
+    // the halved picture is, of scale 0, just as alike
+    private static void halfAt(int x, int y, int due, int a, int b, int c, int d) {
         VisualSums sums = new VisualSums(10, 10, 1);
         sums.paint(true, 100, 0);
         sums.paint(false, 30, 0);
-        sums.put(true, 4, 6, 0, a);
-        sums.put(true, 5, 6, 0, b);
-        sums.put(true, 4, 7, 0, c);
-        sums.put(true, 5, 7, 0, d);
+        sums.put(true, 2 * x, 2 * y, 0, a);
+        sums.put(true, 2 * x + 1, 2 * y, 0, b);
+        sums.put(true, 2 * x, 2 * y + 1, 0, c);
+        sums.put(true, 2 * x + 1, 2 * y + 1, 0, d);
         VisualSums halved = new VisualSums(5, 5, 1);
         halved.paint(true, 100, 0);
         halved.paint(false, 30, 0);
-        halved.put(true, 2, 3, 0, due);
-        Check.same("half of " + a + " " + b + " " + c + " " + d, sums.structure(1), halved.structure(0));
+        halved.put(true, x, y, 0, due);
+        Check.same("half of " + a + " " + b + " " + c + " " + d + " at " + x + " " + y, sums.structure(1), halved.structure(0));
     }
 }

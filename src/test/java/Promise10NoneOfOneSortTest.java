@@ -14,6 +14,10 @@ public final class Promise10NoneOfOneSortTest {
         VisualSums two = new VisualSums(2, 1, 1);
         Draw.line(two, false, 0, 0, 255);
         Check.same("two columns have the other sort alone", two.blocks(2), 0.0);
+        VisualSums three = new VisualSums(3, 1, 1);
+        Draw.line(three, false, 0, 0, 30, 255);
+        Check.same("one of each sort is enough", three.blocks(2), 195.0);
+        Check.same("at 3 there is no column of three", three.blocks(3), 0.0);
         Check.end();
     }
 }

@@ -11,6 +11,30 @@ public final class Promise12SidesAndCornersTest {
                 Check.same("parts of 2 2 and " + x + " " + y, sums.signs(true), near ? 1 : 2);
             }
         }
+        throughOthers();
         Check.end();
+    }
+
+    // places that only others between them hold together, whichever way one goes from one to the other
+    private static void throughOthers() {
+        parts(1, "#...#", "#...#", "#####");
+        parts(1, "#####", "#...#", "#...#");
+        parts(1, "###..", "..#..", "###..", "#....", "###..");
+        parts(1, "..###", "..#..", "..###", "....#", "..###");
+        parts(1, "#.#.#", ".#.#.", ".....");
+        parts(1, ".#.#.", "#.#.#", ".....");
+        parts(1, "....#", "...#.", "#.#..", ".#...");
+        parts(1, ".###.", "#...#", ".###.");
+        parts(2, "#####", "#...#", "#.#.#", "#...#", "#####");
+        parts(2, "#.###", "#.#.#", "#...#", "###.#");
+        parts(4, "#..#.", "....#", ".#...", "#..#.");
+    }
+
+    private static void parts(int due, String... lines) {
+        VisualSums sums = Draw.signs(lines, lines);
+        String what = String.join(" ", lines);
+        Check.same("parts of " + what, sums.signs(true), due);
+        Check.same("kept of " + what, sums.signs(false), due);
+        Check.same("parts of the second one: " + what, sums.told(4), due);
     }
 }
